@@ -741,11 +741,6 @@ public final class WeirStream {
       accounts.remove(place, count);
     }
 
-    void empty() {
-      names.shorten(0);
-      accounts.shorten(0);
-    }
-
     void become(Spans other) {
       names.become(other.names, 0);
       accounts.become(other.accounts, 0);
