@@ -134,6 +134,27 @@ public final class FaceTest {
     }
   }
 
+  /** A method ends where its first line's indentation comes back. */
+  private static void checkLengths() throws Exception {
+    List<String> lines = Files.readAllLines(Path.of("src/main/java/WeirStream.java"));
+    int methods = 0;
+    for (int i = 0; i < lines.size(); i++) {
+      String line = lines.get(i);
+      if (!line.matches("(  |    )[a-zA-Z].*\\) (throws .*)?\\{|(  |    )    throws .*\\{")) {
+        continue;
+      }
+      boolean isNested = line.startsWith(line.contains("  throws ") ? "        " : "    ");
+      String end = isNested ? "    }" : "  }";
+      int last = i;
+      while (last < lines.size() && !lines.get(last).equals(end)) {
+        last++;
+      }
+      methods++;
+      check(last - i < 60, "the method of line " + (i + 1) + " has " + (last - i) + " lines");
+    }
+    check(methods > 150, "only " + methods + " methods were found");
+  }
+
   public static void main(String[] args) throws Exception {
     Set<String> want = faceOfDocument();
     Set<String> got = faceOfClass();
@@ -147,6 +168,7 @@ public final class FaceTest {
     check(Modifier.isFinal(WeirStream.class.getModifiers()), "the class is not final");
     checkClasses();
     checkSource();
+    checkLengths();
     System.out.println(wrong == 0 ? "the face is as due" : wrong + " things are not as due");
     if (wrong != 0) {
       System.exit(1);
