@@ -1,11 +1,12 @@
 import java.lang.management.ManagementFactory;
 
 /**
- * All calls of one run live in one room: what they make is counted here in bytes, which are never
- * less than eight for a number of the room, so the bound of 7.3 million numbers holds below 58 MB.
+ * All calls of one run live in one room: what they make is counted here in bytes. An object with its
+ * head takes four bytes or more for each of its fields, an element of a row takes eight, so the bound
+ * of 7.3 million fields and elements holds below four bytes for each of them.
  */
 public final class RoomTest {
-  private static final long MOST_BYTES = 7_300_000L * 8;
+  private static final long MOST_BYTES = 7_300_000L * 4;
 
   private static int wrong = 0;
 
@@ -23,19 +24,23 @@ public final class RoomTest {
     }
   }
 
-  /** Each event comes to eight windows, three times over, all of which stay till the source ends. */
-  private static void manyWindows(int offers) {
+  private static final int[][] THREE = {{1000, 125}, {120, 15}, {8, 1}};
+  private static final int[][] FIVE = {{1000, 125}, {1000, 125}, {1000, 125}, {120, 15}, {8, 1}};
+
+  /** Each event comes to eight windows, several times over, all of which stay till the sources end. */
+  private static void manyWindows(int offers, int[][] sizes) {
     long before = made();
     WeirStream x = new WeirStream();
     x.addSource(1000);
     x.addSource(1000);
-    x.addMerge(0, 1);
-    x.addWindow(2, 1000, 125, 0, 1000);
-    x.addWindow(3, 120, 15, 0, 1000);
-    x.addWindow(4, 8, 1, 4, 1000);
-    x.addSink(5);
+    int last = x.addMerge(0, 1);
+    for (int[] size : sizes) {
+      last = x.addWindow(last, size[0], size[1], 4, 1000);
+    }
+    int sink = x.addSink(last);
     x.start();
-    int calls = 8;
+    x.setCapacity(20);
+    int calls = 6 + sizes.length;
     for (int i = 0; i < offers; i++) {
       x.offer(i % 2, i % 100, i, 500 + i % 300);
       calls++;
@@ -54,9 +59,9 @@ public final class RoomTest {
       } else {
         x.work(200);
       }
-      most = Math.max(most, x.kept(5));
+      most = Math.max(most, x.kept(last));
     }
-    checkRoom(offers + " events, " + most + " windows, " + x.outputs(6) + " outputs", before);
+    checkRoom(offers + " events, " + most + " windows, " + x.outputs(sink) + " outputs", before);
   }
 
   /** The dearest questions, asked all the time. */
@@ -107,9 +112,10 @@ public final class RoomTest {
     twelveStages(true);
     twelveStages(false);
     manyQuestions();
-    manyWindows(50);
-    manyWindows(150);
-    manyWindows(300);
+    for (int offers = 50; offers <= 300; offers += 50) {
+      manyWindows(offers, THREE);
+      manyWindows(offers, FIVE);
+    }
     System.out.println(wrong == 0 ? "all runs stay in the room" : wrong + " runs do not");
     if (wrong != 0) {
       System.exit(1);
